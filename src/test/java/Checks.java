@@ -4,8 +4,16 @@ final class Checks {
         long answer();
     }
 
+    private static final long MOST_MILLISECONDS = 300_000;
+
     private int asked = 0;
     private int wrong = 0;
+
+    Checks() {
+        Thread watch = new Thread(Checks::endLateTest);
+        watch.setDaemon(true);
+        watch.start();
+    }
 
     void due(String call, long answer, long want) {
         asked++;
@@ -63,6 +71,17 @@ final class Checks {
         if (wrong <= 20) {
             System.out.println(text);
         }
+    }
+
+    /** A call that never ends would hold up .ci/run for as long as it may run. */
+    private static void endLateTest() {
+        try {
+            Thread.sleep(MOST_MILLISECONDS);
+        } catch (InterruptedException e) {
+            return;
+        }
+        System.out.println("the test has not ended in time");
+        Runtime.getRuntime().halt(1);
     }
 
     private static boolean isThrownByTheClass(RuntimeException e) {

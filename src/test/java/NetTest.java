@@ -234,6 +234,9 @@ public final class NetTest {
     }
 
     private static void promise6RepairWaitsForAWarmDay() {
+        HeatGuild coldFirst = new HeatGuild();
+        coldFirst.hour(9);
+        CHECKS.dueIllegalState("6: repair after a cold first hour", () -> coldFirst.repair(4, 1));
         HeatGuild guild = new HeatGuild();
         guild.setArea(4, 10);
         guild.hour(30);
