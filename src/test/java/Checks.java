@@ -29,6 +29,13 @@ final class Checks {
         }
     }
 
+    void due(String call, String answer, String want) {
+        asked++;
+        if (!answer.equals(want)) {
+            report(call + " answered " + answer + ", due is " + want);
+        }
+    }
+
     void dueThrow(String call, Class<? extends RuntimeException> want, Call made) {
         asked++;
         try {

@@ -7,12 +7,13 @@ public final class ModelTest {
     private static final int CALLS = 512;
     private static final int LAST_QUESTIONS = 5 * 11 + 4 + 3;
     private static final int[] WILD = {
-        Integer.MIN_VALUE, Integer.MIN_VALUE + 1, -1000, -21, -20, -1, 0, 1, 4, 5, 6, 11, 12, 13, 20, 21, 30, 31, 50, 51,
-        100, 101, 1 << 30, Integer.MAX_VALUE};
-    private static final String[] CHANGES = {"setArea", "setArea", "setError", "repair", "hour", "hour", "hour", "addBoiler"};
+        Integer.MIN_VALUE, Integer.MIN_VALUE + 1, -1000, -21, -20, -1, 0, 1, 4, 5, 6, 11, 12, 13, 20, 21, 30, 31, 50,
+        51, 100, 101, 1 << 30, Integer.MAX_VALUE};
+    private static final String[] CHANGES = {
+        "setArea", "setArea", "setError", "repair", "hour", "hour", "hour", "addBoiler"};
     private static final String[] QUESTIONS = {
-        "hours", "load", "load", "fired", "fired", "got", "got", "meter", "meter", "isSuspected", "isSuspected", "losses",
-        "bill", "bill", "cost", "isOpen"};
+        "hours", "load", "load", "fired", "fired", "got", "got", "meter", "meter", "isSuspected", "isSuspected",
+        "losses", "bill", "bill", "cost", "isOpen"};
     private static final Checks CHECKS = new Checks();
 
     private final Random random;
